@@ -25,8 +25,14 @@ final class Check {
             call.run();
             return "nothing";
         } catch (RuntimeException e) {
-            return e.getClass().getName();
+            return isByTheClass(e) ? e.getClass().getName() : "what the library threw, " + e;
         }
+    }
+
+    /** A throw statement of the class stands first in the trace; the library's own checks do not count. */
+    private static boolean isByTheClass(RuntimeException thrown) {
+        StackTraceElement[] trace = thrown.getStackTrace();
+        return trace.length > 0 && trace[0].getClassName().startsWith("StormBasin");
     }
 
     void end() {

@@ -99,6 +99,7 @@ final class HouseTest {
         CHECK.same("paid", net.paidTo(1), 54);
         CHECK.same("worst within the cover", net.claimWorst(0), 35);
         CHECK.same("worst beyond the cover", net.claimWorst(0), 0);
+        CHECK.same("the first hour alone, at the least worth", firstHour().claimWorst(0), 1);
         CHECK.refused("worst house", INDEX, HouseTest::street, x -> x.claimWorst(2));
         CHECK.refused("worst house -1", INDEX, HouseTest::street, x -> x.claimWorst(-1));
         CHECK.refused("worst without hours", NoSuchElementException.class, HouseTest::ten, x -> x.claimWorst(0));
@@ -142,6 +143,16 @@ final class HouseTest {
         net.setRain(0, 4);
         net.pass(2);
         net.setRain(0, 0);
+        net.pass(1);
+        return net;
+    }
+
+    /** The only hour so far leaves a depth of 1 at a house with the rate 1. */
+    private static StormBasin firstHour() {
+        StormBasin net = new StormBasin();
+        net.addBasin(1, 10, 1, StormBasin.NONE, 1);
+        net.addHouse(0, 0, 1, 5);
+        net.setRain(0, 11);
         net.pass(1);
         return net;
     }

@@ -90,6 +90,8 @@ final class StreetTest {
         fresh.setRain(1, 2);
         CHECK.same("wetHours without hours", fresh.wetHours(0, 0), 0);
         fresh.pass(3);
+        CHECK.same("hour 1 of the second street", fresh.depthThen(1, 0, 1), 1);
+        CHECK.same("wetHours of the second street", fresh.wetHours(1, 0), 3);
         CHECK.same("floodedSoFar of two streets", fresh.floodedSoFar(), 6);
     }
 

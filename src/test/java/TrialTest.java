@@ -27,6 +27,7 @@ final class TrialTest {
         CHECK.same("with a lower one", net.floodedWith(), 2);
         net.setRain(0, 500);
         CHECK.same("rain to come is not in it", net.floodedWith(), 2);
+        CHECK.same("of two streets", pair().floodedWith(), 2);
         CHECK.same("twice the same", net.floodedWith(), 2);
         CHECK.same("the present stays", net.heldTotal(), 24);
         CHECK.same("the clock stays", net.clock(), 4);
@@ -58,6 +59,10 @@ final class TrialTest {
         StormBasin pair = pair();
         CHECK.same("above", pair.bestOpening(1), 4);
         CHECK.same("below", pair.bestOpening(0), 3);
+        CHECK.same("none floods", rainedOnce(1).bestOpening(0), 0);
+        CHECK.same("lowest but shut", rainedOnce(2).bestOpening(0), 1);
+        CHECK.same("widest", rainedOnce(11).bestOpening(0), 10);
+        CHECK.same("all flood", rainedOnce(12).bestOpening(0), 0);
     }
 
     private static void refusals() {
@@ -83,6 +88,14 @@ final class TrialTest {
         net.setRain(0, 6);
         net.pass(1);
         net.setRain(0, 0);
+        net.pass(1);
+        return net;
+    }
+
+    private static StormBasin rainedOnce(int rain) {
+        StormBasin net = new StormBasin();
+        net.addBasin(1, 1, 1, StormBasin.NONE, 0);
+        net.setRain(0, rain);
         net.pass(1);
         return net;
     }

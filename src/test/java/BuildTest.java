@@ -1,4 +1,4 @@
-/** Promises 1 to 6: a net is built. */
+/** Promises 2 to 6: a net is built. */
 final class BuildTest {
     private static final Check CHECK = new Check();
     private static final Class<IndexOutOfBoundsException> INDEX = IndexOutOfBoundsException.class;
@@ -6,26 +6,12 @@ final class BuildTest {
     private static final Class<IllegalStateException> STATE = IllegalStateException.class;
 
     public static void main(String[] args) {
-        newObject();
         addBasinAnswers();
         addBasinRefuses();
         addCellAnswers();
         addCellRefuses();
         countsAndCapacity();
         CHECK.end();
-    }
-
-    private static void newObject() {
-        StormBasin net = new StormBasin();
-        CHECK.same("new basinCount", net.basinCount(), 0);
-        CHECK.same("new ruleCount", net.ruleCount(), 0);
-        CHECK.same("new houseCount", net.houseCount(), 0);
-        CHECK.same("new clock", net.clock(), 0);
-        CHECK.same("new heldTotal", net.heldTotal(), 0);
-        CHECK.same("new line", Check.lineOf(net), "");
-        StormBasin other = one();
-        CHECK.same("new after another", new StormBasin().basinCount(), 0);
-        CHECK.same("the other one", other.basinCount(), 1);
     }
 
     private static void addBasinAnswers() {

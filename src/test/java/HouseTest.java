@@ -13,6 +13,9 @@ final class HouseTest {
         addHouseRefuses();
         wetAndWorth();
         claim();
+        paymentsUpToTheCover();
+        housesInOneCell();
+        firstAndLastHour();
         claimRefuses();
         claimWorst();
         sums();
@@ -74,7 +77,56 @@ final class HouseTest {
         CHECK.same("paid", net.paidTo(0), 35);
         CHECK.same("claims", net.claimCount(0), 3);
         CHECK.same("another house", net.claim(1, 2), 6);
-        CHECK.same("claim 0 again", Check.thrownBy(() -> net.claim(0, 4)), STATE.getName());
+        CHECK.thrown("claim 0 again", STATE, () -> net.claim(0, 4));
+    }
+
+    /** The hours 2 and 3 are worth 10 and 30. */
+    private static void paymentsUpToTheCover() {
+        for (int cover = 0; cover <= 42; cover++) {
+            StormBasin net = street();
+            int house = net.addHouse(0, 0, 10, cover);
+            int first = Math.min(10, cover);
+            int second = Math.min(30, cover - first);
+            CHECK.same("first payment by " + cover, net.claim(house, 2), first);
+            CHECK.same("second payment by " + cover, net.claim(house, 3), second);
+            CHECK.same("paid by " + cover, net.paidTo(house), first + second);
+            CHECK.same("paid in all by " + cover, net.paidTotal(), (long) first + second);
+            CHECK.same("claims by " + cover, net.claimCount(house), 2);
+        }
+    }
+
+    private static void housesInOneCell() {
+        StormBasin net = street();
+        int other = net.addHouse(0, 0, 10, 35);
+        CHECK.same("one house", net.claim(0, 3), 30);
+        CHECK.same("the same hour of the other", net.claim(other, 3), 30);
+        CHECK.same("cover of the one", net.claim(0, 2), 5);
+        CHECK.same("cover of the other", net.claimWorst(other), 5);
+        CHECK.same("worst of the other was the hour 4", net.claim(other, 5), 0);
+        CHECK.same("all payments", net.paidTotal(), 70L);
+        CHECK.same("mean of five", net.meanPayment(), 14.0);
+    }
+
+    private static void firstAndLastHour() {
+        StormBasin net = firstHour();
+        CHECK.same("hour 1 was wet", net.wasWet(0, 1), true);
+        CHECK.same("claim of the hour 1", net.claim(0, 1), 1);
+        CHECK.refused("hour 2 is yet to come", ARGUMENT, HouseTest::firstHour, x -> x.claim(0, 2));
+        net.pass(24);
+        net.pass(24);
+        net.pass(11);
+        CHECK.same("worth of the hour 60", net.worthOf(0, 60), 650);
+        CHECK.same("claim of the hour 60", net.claim(0, 60), 4);
+        CHECK.thrown("claim of the hour 61", ARGUMENT, () -> net.claim(0, 61));
+        CHECK.same("the worst that is left", net.claimWorst(0), 0);
+        CHECK.thrown("it was the hour 59", STATE, () -> net.claim(0, 59));
+        for (int claims = 4; claims <= 60; claims++) {
+            net.claimWorst(0);
+            CHECK.same("claims", net.claimCount(0), claims);
+        }
+        CHECK.thrown("all hours are claimed", NoSuchElementException.class, () -> net.claimWorst(0));
+        CHECK.same("claims at the end", net.claimCount(0), 60);
+        CHECK.same("the cover at the end", net.paidTo(0), 5);
     }
 
     private static void claimRefuses() {
@@ -89,12 +141,12 @@ final class HouseTest {
     private static void claimWorst() {
         StormBasin net = street();
         CHECK.same("worst, the first of two", net.claimWorst(1), 18);
-        CHECK.same("hour 4 is claimed", Check.thrownBy(() -> net.claim(1, 4)), STATE.getName());
+        CHECK.thrown("hour 4 is claimed", STATE, () -> net.claim(1, 4));
         CHECK.same("worst, the second of two", net.claimWorst(1), 18);
-        CHECK.same("hour 5 is claimed", Check.thrownBy(() -> net.claim(1, 5)), STATE.getName());
+        CHECK.thrown("hour 5 is claimed", STATE, () -> net.claim(1, 5));
         net.claim(1, 3);
         CHECK.same("worst of what is left", net.claimWorst(1), 6);
-        CHECK.same("none is left", Check.thrownBy(() -> net.claimWorst(1)), NoSuchElementException.class.getName());
+        CHECK.thrown("none is left", NoSuchElementException.class, () -> net.claimWorst(1));
         CHECK.same("claims", net.claimCount(1), 4);
         CHECK.same("paid", net.paidTo(1), 54);
         CHECK.same("worst within the cover", net.claimWorst(0), 35);
@@ -103,6 +155,8 @@ final class HouseTest {
         CHECK.refused("worst house", INDEX, HouseTest::street, x -> x.claimWorst(2));
         CHECK.refused("worst house -1", INDEX, HouseTest::street, x -> x.claimWorst(-1));
         CHECK.refused("worst without hours", NoSuchElementException.class, HouseTest::ten, x -> x.claimWorst(0));
+        CHECK.refused("worst of dry hours", NoSuchElementException.class, Nets::housesInDryHours, x -> x.claimWorst(0));
+        CHECK.refused("worst of claimed hours", NoSuchElementException.class, Nets::housesThatClaimed, x -> x.claimWorst(1));
     }
 
     private static void sums() {
@@ -125,6 +179,12 @@ final class HouseTest {
         nothing.addHouse(0, 0, 5, 0);
         nothing.claim(2, 2);
         CHECK.same("mean of nothing paid", nothing.meanPayment(), 0.0);
+        StormBasin once = street();
+        once.claim(1, 2);
+        CHECK.same("mean of one claim", once.meanPayment(), 6.0);
+        nothing.claim(1, 2);
+        nothing.claim(2, 3);
+        CHECK.same("claims that were paid nothing count", nothing.meanPayment(), 2.0);
         CHECK.refused("mean of a new net", ArithmeticException.class, StormBasin::new, x -> x.meanPayment());
         CHECK.refused("mean without claims", ArithmeticException.class, HouseTest::street, x -> x.meanPayment());
     }

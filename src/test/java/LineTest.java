@@ -5,6 +5,8 @@ final class LineTest {
 
     public static void main(String[] args) {
         written();
+        shortestAndLongest();
+        aRefusedCallLeavesTheLine();
         refusals();
         CHECK.end();
     }
@@ -22,6 +24,31 @@ final class LineTest {
         CHECK.same("last character", net.lineAt(6), '0');
         net.removeRule(2);
         CHECK.same("stays when its rule goes", Check.lineOf(net), "1:1<0=0");
+    }
+
+    private static void shortestAndLongest() {
+        StormBasin net = Nets.six();
+        net.addRule(0, 0, true, 0, 0);
+        net.addRule(5, 5, false, 40, 10);
+        net.addRule(1, 2, true, 9, 9);
+        net.addRule(3, 4, false, 10, 10);
+        String[] due = {"0:0>0=0", "5:5<40=10", "1:2>9=9", "3:4<10=10"};
+        for (int rule = 0; rule < due.length; rule++) {
+            int last = due[rule].length() - 1;
+            CHECK.same("length", net.writeRule(rule), due[rule].length());
+            CHECK.same("line", Check.lineOf(net), due[rule]);
+            CHECK.same("last character", net.lineAt(last), due[rule].charAt(last));
+            CHECK.thrown("beyond the last one", INDEX, () -> net.lineAt(last + 1));
+            CHECK.thrown("before the first one", INDEX, () -> net.lineAt(-1));
+        }
+    }
+
+    private static void aRefusedCallLeavesTheLine() {
+        StormBasin net = writtenOnce();
+        CHECK.thrown("rule 3", INDEX, () -> net.writeRule(3));
+        CHECK.same("line after it", Check.lineOf(net), "2:0>15=4");
+        CHECK.same("the same rule again", net.writeRule(0), 8);
+        CHECK.same("in place of the line before", Check.lineOf(net), "2:0>15=4");
     }
 
     private static void refusals() {

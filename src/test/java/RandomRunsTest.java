@@ -129,7 +129,8 @@ final class RandomRunsTest {
         try {
             return method.invoke(object, arguments);
         } catch (InvocationTargetException e) {
-            return e.getCause().getClass().getName();
+            Throwable thrown = e.getCause();
+            return object instanceof StormBasin ? Check.nameOf(thrown) : thrown.getClass().getName();
         }
     }
 }

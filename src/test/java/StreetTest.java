@@ -6,8 +6,12 @@ final class StreetTest {
 
     public static void main(String[] args) {
         depthsOfSmallVolumes();
+        aCellIsWetFromItsFirstUnit();
+        unitsGoByTheLowestNumber();
+        cellsAreFilledAnewForEachVolume();
         depthsByBothWays();
         depthThen();
+        hoursThatCount();
         wetCellsAndHours();
         refusals();
         CHECK.end();
@@ -26,6 +30,75 @@ final class StreetTest {
         CHECK.same("one more", depths(flooded(31, 0, 30), 0), "31 0");
         CHECK.same("two more", depths(flooded(32, 0, 30), 0), "31 1");
         CHECK.same("the lowest number first", depths(flooded(31, 30, 0), 0), "1 30");
+    }
+
+    /** The cells are at 2 and 5: the second one takes its first unit when the first one stands above it. */
+    private static void aCellIsWetFromItsFirstUnit() {
+        CHECK.same("dry street", flooded(0, 2, 5).wetCells(0), 0);
+        CHECK.same("one unit", flooded(1, 2, 5).wetCells(0), 1);
+        CHECK.same("as high as the second cell", flooded(3, 2, 5).wetCells(0), 1);
+        CHECK.same("a unit above it", flooded(4, 2, 5).wetCells(0), 1);
+        CHECK.same("first unit of the second cell", flooded(5, 2, 5).wetCells(0), 2);
+        CHECK.same("dry at 4", flooded(4, 2, 5).wetHours(0, 1), 0);
+        CHECK.same("wet at 5", flooded(5, 2, 5).wetHours(0, 1), 1);
+        CHECK.same("sum at 4", flooded(4, 2, 5).floodedSoFar(), 1);
+        CHECK.same("sum at 5", flooded(5, 2, 5).floodedSoFar(), 2);
+        CHECK.same("the lower cell is the second", depths(flooded(3, 5, 2), 0), "0 3");
+        CHECK.same("first unit of the first cell", depths(flooded(4, 5, 2), 0), "1 3");
+    }
+
+    private static void unitsGoByTheLowestNumber() {
+        int[] heights = {7, 7, 7, 7, 7, 7, 7, 7};
+        for (int volume = 0; volume <= 17; volume++) {
+            StormBasin net = flooded(volume, heights);
+            CHECK.same("wet cells of " + volume, net.wetCells(0), Math.min(volume, 8));
+            for (int cell = 0; cell < 8; cell++) {
+                CHECK.same("depth of " + volume, net.depthAt(0, cell), (volume + 7 - cell) / 8);
+                CHECK.same("pouring of " + volume, net.depthByPouring(0, cell), (volume + 7 - cell) / 8);
+            }
+        }
+    }
+
+    /** A street that has sunk to a volume stands as one that has risen to it. */
+    private static void cellsAreFilledAnewForEachVolume() {
+        for (int volume = 0; volume <= 10; volume++) {
+            StormBasin sunk = new StormBasin();
+            sunk.addBasin(1, 10, 1, StormBasin.NONE, 2);
+            sunk.addCell(0, 0);
+            sunk.addCell(0, 3);
+            sunk.setRain(0, 20);
+            sunk.pass(1);
+            sunk.setRain(0, 0);
+            sunk.setHand(0, 10 - volume);
+            sunk.pass(1);
+            CHECK.same("sunk", sunk.streetVolume(0), volume);
+            CHECK.same("sunk as risen", depths(sunk, 0), depths(flooded(volume, 2, 0, 3), 0));
+            CHECK.same("wet as risen", sunk.wetCells(0), flooded(volume, 2, 0, 3).wetCells(0));
+        }
+    }
+
+    /** An hour counts by its end alone, and only once it has passed. */
+    private static void hoursThatCount() {
+        StormBasin net = new StormBasin();
+        net.addBasin(1, 10, 1, StormBasin.NONE, 0);
+        net.setRain(0, 20);
+        net.setHand(0, 10);
+        CHECK.refused("hour 1 before it has passed", ARGUMENT, Nets::one, x -> x.depthThen(0, 0, 1));
+        net.pass(1);
+        CHECK.same("high in the hour, dry at its end", net.wetHours(0, 0), 0);
+        CHECK.same("sum of a dry end", net.floodedSoFar(), 0);
+        net.setRain(0, 11);
+        net.pass(24);
+        net.setRain(0, 0);
+        net.pass(24);
+        net.pass(11);
+        CHECK.same("depth at the end of the first wet hour", net.depthThen(0, 0, 2), 1);
+        CHECK.same("depth at the end of the last wet hour", net.depthThen(0, 0, 27), 4);
+        CHECK.same("depth at the end of the first dry hour", net.depthThen(0, 0, 28), 0);
+        CHECK.same("hours that were wet", net.wetHours(0, 0), 26);
+        CHECK.same("sum over the hours", net.floodedSoFar(), 26);
+        CHECK.same("depth at the end of the last hour", net.depthThen(0, 0, 60), 0);
+        CHECK.thrown("hour 61", ARGUMENT, () -> net.depthThen(0, 0, 61));
     }
 
     private static void depthsByBothWays() {

@@ -8,6 +8,8 @@ final class TrialTest {
         floodedWith();
         floodedWithOpening();
         bestOpening();
+        aTrialBeginsAnew();
+        rulesInATrial();
         refusals();
         CHECK.end();
     }
@@ -63,6 +65,42 @@ final class TrialTest {
         CHECK.same("lowest but shut", rainedOnce(2).bestOpening(0), 1);
         CHECK.same("widest", rainedOnce(11).bestOpening(0), 10);
         CHECK.same("all flood", rainedOnce(12).bestOpening(0), 0);
+    }
+
+    /** A trial starts with an empty net and goes by the rain of each hour, not by that of now. */
+    private static void aTrialBeginsAnew() {
+        StormBasin net = rained();
+        String first = net.floodedWith() + " " + net.floodedWithOpening(0, 5) + " " + net.bestOpening(0);
+        String second = net.floodedWith() + " " + net.floodedWithOpening(0, 5) + " " + net.bestOpening(0);
+        CHECK.same("trials after trials", second, first);
+        net.setRain(0, 500);
+        CHECK.same("fixed opening and rain to come", net.floodedWithOpening(0, 10), 0);
+        CHECK.same("best opening and rain to come", net.bestOpening(0), 5);
+        net.pass(1);
+        CHECK.same("rain that has come", net.floodedWithOpening(0, 10), 2);
+        CHECK.same("one hour more", net.floodedWith(), 8);
+        CHECK.same("as it was", net.floodedSoFar(), 8);
+        CHECK.same("best of what all flood in the end", net.bestOpening(0), 5);
+    }
+
+    /** A rule that comes later is tried on the hours before it, by the levels in the trial. */
+    private static void rulesInATrial() {
+        StormBasin net = rained();
+        net.addRule(0, 0, true, 11, 10);
+        CHECK.same("from 11 on", net.floodedWith(), 0);
+        net.removeRule(0);
+        net.addRule(0, 0, true, 19, 10);
+        CHECK.same("from 19 on", net.floodedWith(), 6);
+        net.removeRule(0);
+        net.addRule(0, 0, true, 18, 10);
+        CHECK.same("from 18 on", net.floodedWith(), 4);
+        net.removeRule(0);
+        net.addRule(0, 0, false, 11, 10);
+        CHECK.same("below 11", net.floodedWith(), 0);
+        net.addRule(0, 0, true, 0, 0);
+        CHECK.same("a rule for the fixed gate does not count", net.floodedWithOpening(0, 10), 0);
+        CHECK.same("nor for the best one", net.bestOpening(0), 5);
+        CHECK.same("the rules stay", net.ruleCount(), 2);
     }
 
     private static void refusals() {

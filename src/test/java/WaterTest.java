@@ -8,10 +8,18 @@ final class WaterTest {
     public static void main(String[] args) {
         setRain();
         pass();
+        rainIsFromNowOn();
         openingsAreFoundAfterTheRain();
+        openingsAreFoundBeforeAnyWaterGoes();
+        aRuleHoldsAtItsLevelOrBelowIt();
+        aLevelIsThatOfTheBasinAlone();
+        aGateLetsThroughNoMoreThanThereIs();
         gatesRunAtTheSameTime();
+        aChainTakesAnHourForEachBasin();
         severalFlowIntoOne();
+        onlyWhatIsBeyondGoesOntoTheStreet();
         streetsTakeAndGiveBack();
+        aStreetGivesBackWhatThereIsAndWhatFits();
         volumesAndLevels();
         totals();
         CHECK.end();
@@ -40,10 +48,10 @@ final class WaterTest {
         CHECK.same("pass 24", net.pass(24), 25);
         CHECK.same("pass 24 again", net.pass(24), 49);
         CHECK.same("clock", net.clock(), 49);
-        CHECK.same("too far by one", Check.thrownBy(() -> net.pass(12)), STATE.getName());
+        CHECK.thrown("too far by one", STATE, () -> net.pass(12));
         CHECK.same("up to 60", net.pass(11), 60);
-        CHECK.same("past 60", Check.thrownBy(() -> net.pass(1)), STATE.getName());
-        CHECK.same("hours before the clock", Check.thrownBy(() -> net.pass(25)), ARGUMENT.getName());
+        CHECK.thrown("past 60", STATE, () -> net.pass(1));
+        CHECK.thrown("hours before the clock", ARGUMENT, () -> net.pass(25));
         CHECK.refused("pass without basin", STATE, StormBasin::new, x -> x.pass(1));
         CHECK.refused("pass 0 without basin", ARGUMENT, StormBasin::new, x -> x.pass(0));
         CHECK.refused("pass 0", ARGUMENT, WaterTest::wet, x -> x.pass(0));
@@ -67,6 +75,127 @@ final class WaterTest {
         high.pass(1);
         CHECK.same("level above the depth", high.riverTotal(), 5);
         CHECK.same("nothing beyond after it", high.streetVolume(0), 0);
+    }
+
+    private static void rainIsFromNowOn() {
+        StormBasin net = one(2, 40, 0);
+        net.pass(1);
+        net.setRain(0, 5);
+        CHECK.same("rain before its first hour", net.rainTotal(), 0);
+        CHECK.same("volume before its first hour", net.volumeOf(0), 0);
+        net.pass(1);
+        CHECK.same("rain in its first hour", net.rainTotal(), 5);
+        net.addRule(0, 0, true, 0, 0);
+        net.pass(1);
+        CHECK.same("rain goes on", net.rainTotal(), 10);
+    }
+
+    private static void openingsAreFoundBeforeAnyWaterGoes() {
+        StormBasin net = one(1, 30, 1);
+        net.addBasin(1, 30, 1, 0, 0);
+        net.addRule(0, 1, true, 10, 5);
+        net.addRule(1, 0, false, 20, 10);
+        net.setRain(0, 19);
+        net.setRain(1, 10);
+        net.pass(1);
+        CHECK.same("by the level of the basin above, before its water goes", net.riverTotal(), 5);
+        CHECK.same("by the level of the basin below, before water comes", net.volumeOf(1), 0);
+        CHECK.same("what is below", net.volumeOf(0), 24);
+    }
+
+    private static void aRuleHoldsAtItsLevelOrBelowIt() {
+        for (int rain = 7; rain <= 10; rain++) {
+            StormBasin from = one(2, 30, 1);
+            from.addRule(0, 0, true, 4, 1);
+            from.setRain(0, rain);
+            from.pass(1);
+            CHECK.same("from 4 on at " + rain + " / 2", from.riverTotal(), rain < 8 ? 0 : 1);
+            StormBasin below = one(2, 30, 1);
+            below.addRule(0, 0, false, 4, 1);
+            below.setRain(0, rain);
+            below.pass(1);
+            CHECK.same("below 4 at " + rain + " / 2", below.riverTotal(), rain < 8 ? 1 : 0);
+        }
+    }
+
+    private static void aLevelIsThatOfTheBasinAlone() {
+        StormBasin net = one(1, 3, 0);
+        net.addRule(0, 0, true, 4, 1);
+        net.setRain(0, 9);
+        net.pass(1);
+        CHECK.same("level beside a wet street", net.levelOf(0), 3);
+        CHECK.same("street", net.streetVolume(0), 6);
+        CHECK.same("rule beside a wet street", net.doesHold(0), false);
+    }
+
+    private static void aGateLetsThroughNoMoreThanThereIs() {
+        for (int rain = 0; rain <= 12; rain++) {
+            StormBasin net = one(1, 20, 2);
+            net.setHand(0, 5);
+            net.setRain(0, rain);
+            net.pass(1);
+            CHECK.same("river of " + rain, net.riverTotal(), rain < 10 ? rain : 10);
+            CHECK.same("basin of " + rain, net.volumeOf(0), rain < 10 ? 0 : rain - 10);
+        }
+        StormBasin net = one(1, 20, 2);
+        net.addBasin(1, 20, 1, 0, 0);
+        net.setHand(0, 5);
+        net.setHand(1, 4);
+        net.setRain(1, 4);
+        net.pass(1);
+        CHECK.same("what comes in an hour does not go in it", net.riverTotal(), 0);
+        CHECK.same("it stays below", net.volumeOf(0), 4);
+    }
+
+    private static void aChainTakesAnHourForEachBasin() {
+        StormBasin net = one(1, 20, 1);
+        for (int below = 0; below < 5; below++) {
+            net.addBasin(1, 20, 1, below, 0);
+        }
+        for (int basin = 0; basin < 6; basin++) {
+            net.setHand(basin, 10);
+        }
+        net.setRain(5, 10);
+        net.pass(1);
+        net.setRain(5, 0);
+        CHECK.same("after the first hour", net.volumeOf(4), 10);
+        for (int basin = 3; basin >= 0; basin--) {
+            net.pass(1);
+            CHECK.same("came into basin", net.volumeOf(basin), 10);
+            CHECK.same("gone from the basin above", net.volumeOf(basin + 1), 0);
+            CHECK.same("not yet in the river", net.riverTotal(), 0);
+        }
+        net.pass(1);
+        CHECK.same("in the river", net.riverTotal(), 10);
+        CHECK.same("held", net.heldTotal(), 0);
+    }
+
+    private static void onlyWhatIsBeyondGoesOntoTheStreet() {
+        for (int rain = 11; rain <= 14; rain++) {
+            StormBasin net = one(3, 4, 0);
+            net.setRain(0, rain);
+            net.pass(1);
+            CHECK.same("basin of 12 after " + rain, net.volumeOf(0), rain < 12 ? rain : 12);
+            CHECK.same("street after " + rain, net.streetVolume(0), rain < 12 ? 0 : rain - 12);
+        }
+    }
+
+    /** A basin of 10 with 5 on its street loses what goes through its gate, and the street gives back. */
+    private static void aStreetGivesBackWhatThereIsAndWhatFits() {
+        for (int gone = 0; gone <= 10; gone++) {
+            StormBasin net = one(1, 10, 1);
+            net.setRain(0, 15);
+            net.pass(1);
+            net.setRain(0, 0);
+            net.setHand(0, gone);
+            net.pass(1);
+            CHECK.same("street after " + gone, net.streetVolume(0), gone < 5 ? 5 - gone : 0);
+            CHECK.same("basin after " + gone, net.volumeOf(0), gone < 5 ? 10 : 15 - gone);
+        }
+        StormBasin again = one(1, 10, 1);
+        again.setRain(0, 15);
+        again.pass(2);
+        CHECK.same("a full basin takes nothing back", again.streetVolume(0), 20);
     }
 
     private static void gatesRunAtTheSameTime() {

@@ -483,8 +483,9 @@ public final class StormBasin {
     }
 
     private int levelBy(Water water, int basin) {
-        // An area is at least 1: addBasin takes no other.
-        return water.inBasin[basin] / basins.get(basin).area;
+        int area = basins.get(basin).area;
+        // addBasin takes no area below 1, but no divisor may go untested.
+        return area > 0 ? water.inBasin[basin] / area : 0;
     }
 
     private int wetCellsBy(Water water) {
